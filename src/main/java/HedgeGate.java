@@ -845,15 +845,23 @@ public final class HedgeGate {
     /** PLAN: tries steps in the document's order, so the first of the best is met first. */
     private static final class Plan {
         private static final int NO_PLAN = 1000000;
+        private static final int PLACES = 1024;
+        /** An odd number without a pattern: by it keys that are near come to places apart. */
+        private static final long SPREAD = 7046029254386353131L;
 
         private final int[] askedAt = new int[MOST_WORDS];
         private final int[] steps = new int[MOST_TRAVELLERS];
         private final int[] best = new int[MOST_TRAVELLERS];
+        private final long[] seen = new long[PLACES];
+        private long made = 0;
+        private int start = 0;
         private int bestHour = NO_PLAN;
         private int length = 0;
 
         void make(Hedge hedge) {
             System.arraycopy(hedge.askedAt, 0, askedAt, 0, MOST_WORDS);
+            made++;
+            start = hedge.hour;
             bestHour = NO_PLAN;
             length = 0;
             seek(this, hedge, 0, hedge.passed(), hedge.hour, hedge.lastCase, hedge.mayFollow);
@@ -876,6 +884,9 @@ public final class HedgeGate {
             }
             if (left == 0 || depth >= MOST_TRAVELLERS) {
                 plan.keepBest(depth, hour);
+                return;
+            }
+            if (plan.wasHere(hedge, passed, hour, lastCase, follow)) {
                 return;
             }
             int open = hedge.open(plan.askedAt, hour, lastCase);
@@ -916,6 +927,29 @@ public final class HedgeGate {
                 }
             }
             return false;
+        }
+
+        /**
+         * Whether the search stood before all that matters from here on as it does now: then
+         * nothing better can be found. A place is overwritten by what comes to it later, which
+         * costs time alone.
+         */
+        private boolean wasHere(Hedge hedge, int passed, int hour, int lastCase, int follow) {
+            long key = made << 5 | passed;
+            key = key << 3 | lastCase + 1;
+            key = key << 3 | follow;
+            key = key << 4 | hour - start;
+            int longest = 2 * (hedge.travellers - Integer.bitCount(passed));
+            // all places for words, told or not: keys of two hedges must not be taken for one
+            for (int w = 0; w < MOST_WORDS; w++) {
+                boolean worn = hedge.isWorn(w, askedAt[w], hour);
+                int wornFor = worn ? askedAt[w] + hedge.memory - hour : 0;
+                key = key << 4 | Math.min(wornFor, longest);
+            }
+            int place = (int) (key * SPREAD >>> 54) & PLACES - 1;
+            boolean here = seen[place] == key;
+            seen[place] = key;
+            return here;
         }
     }
 
