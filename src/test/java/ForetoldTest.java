@@ -125,6 +125,10 @@ public final class ForetoldTest {
         steps(v, 2, 24);
         v.follows(1);
         steps(v, 2);
+        // two ifs, behind each other, let two follow
+        HedgeGate u = Check.gate("h9,2,0,0,0;i0;i1;t1;t2;t1;t1;");
+        steps(u, 4, 0, 17, 40, 56);
+        steps(Check.gate("h9,2,0,0,0;i0;i1;t1;t2;t1;t1;t1;"), NONE);
     }
 
     private static void plansAroundWornWords() {
@@ -141,6 +145,7 @@ public final class ForetoldTest {
     private static void plansFromNow() {
         HedgeGate x = Check.gate("h3,2,1,0,0;p0;p1;p0;t1;t2;t5;");
         x.waits(4);
+        steps(x, 7, 0, 17, 34);
         x.asks(1, 1);
         steps(x, NONE);
         x.undo();
@@ -225,6 +230,9 @@ public final class ForetoldTest {
         HedgeGate z = Check.gate("h1,0,0,0,0;" + "p0;".repeat(8) + "t1;t2;t4;t8;t128;");
         CHECK.due("each its own", z.family(31, 0), 5);
         CHECK.due("each its own", z.family(31, 1), 143);
+        HedgeGate v = Check.gate("h1,0,0,0,0;p0;p0;t1;t2;");
+        CHECK.due("all words", v.family(3, 0), 2);
+        CHECK.due("all words", v.family(3, 1), 3);
     }
 
     private static void bansWords() {

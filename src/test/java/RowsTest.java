@@ -55,8 +55,9 @@ public final class RowsTest {
     }
 
     private static void newRowsHoldNoughts() {
-        HedgeGate x = Check.gate(OPEN);
+        HedgeGate x = Check.gate("h1,15,15,15,15;f0;t1;");
         x.row(0, 2, 3);
+        CHECK.due("a new row has noughts", x.goneBy(0, 2, 1), 1);
         x.set(0, 0, 9);
         CHECK.due("item 9 is no traveller", x.goneBy(0, 0, 1), HedgeGate.BAD);
         x.row(0, 2, 3);
