@@ -265,6 +265,24 @@ final class ForetoldEdges {
         HedgeGate v = Check.gate("h1,2,1,0,0;f0;f1;t3;");
         v.asks(0, 0);
         talk("the first as it is now", v, 1, 0);
+        talkOfHedgesInTurn();
+    }
+
+    /** What was found for one hedge is nothing to the next. */
+    private void talkOfHedgesInTurn() {
+        HedgeGate x = Check.gate("h1" + OPEN + "f0;".repeat(8));
+        talk("eight", x, 0, 1, 2, 3, 4, 5, 6, 7);
+        Check.read(x, "h1" + OPEN + "p0;p1;p2;");
+        talk("three behind eight", x, 0, 1, 2);
+        Check.read(x, "h1,0,0,0,0;p0;p0;");
+        talk("one of two", x, 0);
+        Check.read(x, "h1" + OPEN);
+        talk("none", x);
+        Check.read(x, "h9" + OPEN + "p0;p1;t1;");
+        x.asks(0, 0);
+        talk("one is worn", x, 1);
+        x.undo();
+        talk("none is worn", x, 0, 1);
     }
 
     private void talkRefused() {

@@ -74,6 +74,10 @@ public final class PlanTest {
 
     private void hold() {
         HedgeGate gate = Check.gate(text());
+        for (int days = lot.nextInt(3) == 0 ? lot.nextInt(41) : 0; days > 0; days--) {
+            hour += 24;
+            CHECK.due("a day", gate.waits(24), hour);
+        }
         int acts = 0;
         do {
             best = Integer.MAX_VALUE;

@@ -274,6 +274,13 @@ final class ReadingEdges {
         faulty(LAW + "p123;", 12, 2);
         faulty(LAW + "p9x", 12, 2);
         faulty(LAW + "px9", 12, 1);
+        // what comes behind a fault would have others, if it were read on
+        faulty("h" + "p".repeat(30), 1, 1);
+        faulty("h0" + "p0;".repeat(9) + "t1;".repeat(6), 1, 2);
+        faulty("x" + FULL_HEDGE + "t", 0, 1);
+        faulty(LAW + "p4;" + "p0;".repeat(9), 12, 2);
+        faulty(EIGHT + "t0;" + "t1;".repeat(6), 36, 2);
+        faulty(EIGHT + "p0;t0;", 35, 3);
     }
 
     private void theLeastFault() {
