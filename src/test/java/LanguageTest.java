@@ -63,6 +63,7 @@ public final class LanguageTest {
                 methods.add(m.getName() + " " + m.getParameterCount());
                 CHECK.holds(m + " is public and no more", Modifier.isPublic(m.getModifiers())
                     && !Modifier.isStatic(m.getModifiers()) && m.getReturnType() == int.class);
+                CHECK.holds(m + " takes ints alone", Set.of(int.class).containsAll(List.of(m.getParameterTypes())));
             }
         }
         CHECK.holds("the methods " + methods, methods.equals(new TreeSet<>(FACE)));
@@ -75,6 +76,8 @@ public final class LanguageTest {
         CHECK.holds("the constants " + fields, fields.equals(Set.of("NONE", "BAD", "STATE", "FULL")));
         Constructor<?>[] constructors = HedgeGate.class.getDeclaredConstructors();
         CHECK.due("constructors", constructors.length, 1);
+        CHECK.due("numbers that a new object takes", constructors[0].getParameterCount(), 0);
+        CHECK.holds("public constructor", Modifier.isPublic(constructors[0].getModifiers()));
         CHECK.holds("public class", Modifier.isPublic(HedgeGate.class.getModifiers()));
         CHECK.holds("final class", Modifier.isFinal(HedgeGate.class.getModifiers()));
         CHECK.due("NONE", HedgeGate.NONE, -1000000);
